@@ -291,7 +291,7 @@ public final class ScoutGates {
         if (pad.length + more > MOST_CHARACTERS) {
             return TOO_MANY;
         }
-        pad.append(characters, more);
+        pad.addCharacters(characters, more);
         return pad.length;
     }
 
@@ -670,7 +670,7 @@ public final class ScoutGates {
             return found;
         }
 
-        void append(long characters, int more) {
+        void addCharacters(long characters, int more) {
             long rest = characters;
             for (int i = length + more - 1; i >= length; i--) {
                 signs[i] = (char) (rest & 255);

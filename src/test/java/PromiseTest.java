@@ -7,9 +7,11 @@ public final class PromiseTest {
         promise1NewObject();
         promise2Set();
         promise3Troop();
+        promise3NothingIsLeftOfATroopBefore();
         promise4Resize();
         promise4ScoutsBelowAndAboveTheSize();
         promise4SizeIsAboveAgainDuringAHike();
+        promise4HikesOfOneWhoIsNone();
         promise5Come();
         promise5OpensTwice();
         promise5LostAndStruckOnesCome();
@@ -32,6 +34,7 @@ public final class PromiseTest {
         promise19CarryOut();
         promise20Undo();
         promise20WhatIsRecorded();
+        promise20EachChangeIsUndone();
         promise21Save();
         promise22Restore();
         Due.end();
@@ -116,6 +119,50 @@ public final class PromiseTest {
         Due.is("3: nobody has hiked yet", x.ofTroop(0, 4) + x.ofTroop(0, 8) + x.of(0, 0, 2), 0);
     }
 
+    private static void promise3NothingIsLeftOfATroopBefore() {
+        ScoutGates x = new ScoutGates();
+        x.set(0, 0);
+        x.save(0);
+        x.troop(4);
+        for (int scout = 0; scout < 4; scout++) {
+            x.come(0, scout, 0);
+        }
+        x.pass(30);
+        x.lose(0, 1);
+        x.lose(0, 3);
+        x.pass(1);
+        x.come(0, 0, 1);
+        Due.is("3: opens for fewer", x.come(0, 2, 1), 1);
+        x.pass(29);
+        x.come(0, 1, 1);
+        x.save(1);
+        x.restore(0);
+        Due.is("3: a troop in its place", x.troop(4), 0);
+        int[] due = {4, 0, 4, 4, 0, 15, 0, 0, 0, 0, 0, 0};
+        for (int what = 0; what < due.length; what++) {
+            Due.is("3: ofTroop(0, " + what + ") of it", x.ofTroop(0, what), due[what]);
+        }
+        for (int scout = 0; scout < 4; scout++) {
+            for (int what = 0; what < 4; what++) {
+                Due.is("3: of(0, " + scout + ", " + what + ") of it", x.of(0, scout, what), 0);
+            }
+        }
+        x.restore(1);
+        x.come(0, 0, 1);
+        x.restore(0);
+        x.troop(4);
+        Due.is("3: nobody is outside, lost or on a hike", x.ofTroop(0, 5), 15);
+        x.restore(0);
+        x.troop(1);
+        x.troop(2);
+        x.come(0, 0, 0);
+        x.come(1, 0, 0);
+        x.restore(0);
+        x.troop(1);
+        x.troop(2);
+        Due.is("3: the colour is 0, nobody is inside", x.ofTroop(0, 1) * 10 + x.ofTroop(1, 6), 0);
+    }
+
     private static void promise4Resize() {
         ScoutGates x = withTroops(2);
         Due.is("4: no troop 1", x.resize(1, 2), NO_SUCH);
@@ -168,6 +215,22 @@ public final class PromiseTest {
         Due.is("4: the old one keeps its hikes", x.of(0, 0, 2), 2);
         Due.is("4: anew, not outside", x.of(0, 3, 0), HOME);
         Due.is("4: anew, not lost", x.of(0, 2, 1), 0);
+    }
+
+    private static void promise4HikesOfOneWhoIsNone() {
+        ScoutGates x = withTroops(2);
+        x.set(0, 0);
+        x.come(0, 0, 0);
+        x.come(0, 1, 0);
+        x.pass(30);
+        x.lose(0, 1);
+        x.pass(1);
+        x.resize(0, 1);
+        Due.is("4: opens for fewer, and fewer there are", x.come(0, 0, 1) * 10 + x.of(0, 1, 2), 10 + NO_SUCH);
+        x.pass(30);
+        x.resize(0, 2);
+        Due.is("4: opens, and it is anew", x.come(0, 0, 0) * 10 + x.of(0, 1, 0), 10);
+        Due.is("4: its hikes and minutes are not of before", x.of(0, 1, 2) * 10 + x.of(0, 1, 1), 0);
     }
 
     private static void promise4SizeIsAboveAgainDuringAHike() {
@@ -731,7 +794,12 @@ public final class PromiseTest {
         Due.is("19: undone in one", x.count(0) * 10 + x.count(8), 50);
         x.undo();
         Due.is("19: undone all", x.count(1), 0);
-        Due.is("19: 40 orders", carryOut(x, "n1;n1;n1;n1;n1;t1;t1;t1;t1;t1;t1;t1;t1;t1;t1;t1;t1;t1;t1;t1;t1;t1;t1;t1;t1;t1;t1"), 27);
+        Due.is("19: numbers of two digits", carryOut(x, "n1;n16;s1=10;c1.15r;l1.14;t57"), 6);
+        Due.is("19: size", x.ofTroop(1, 0) * 100 + x.ofTroop(1, 2), 1610);
+        Due.is("19: scouts", x.ofTroop(1, 6) + x.ofTroop(1, 9), 0xC000);
+        Due.is("19: minutes", x.count(0), 57);
+        x.undo();
+        Due.is("19: 27 orders", carryOut(x, "n1;n1;n1;n1;n1;t1;t1;t1;t1;t1;t1;t1;t1;t1;t1;t1;t1;t1;t1;t1;t1;t1;t1;t1;t1;t1;t1"), 27);
     }
 
     private static void promise20Undo() {
@@ -794,7 +862,38 @@ public final class PromiseTest {
         x.find(0, 1);
         x.pass(1);
         Due.is("20: find and pass", x.count(9), 6);
-        Due.is("20: undo is no change", x.undo() * 10 + x.undo(), 54);
+        x.come(0, 0, 7);
+        x.undo();
+        Due.is("20: an error spoils no state", x.undo() * 10 + x.of(0, 1, 0), 40 + LOST);
+        Due.is("20: undo is no change", x.undo() * 10 + x.undo(), 32);
+    }
+
+    private static void promise20EachChangeIsUndone() {
+        ScoutGates x = withTroops(2, 2);
+        x.lose(0, 0);
+        x.pass(3);
+        x.find(0, 0);
+        Due.is("20: found", x.undo() * 100 + x.of(0, 0, 0) * 10 + x.of(0, 0, 1), 443);
+        x.set(1, 5);
+        x.undo();
+        Due.is("20: set", x.count(7), 30);
+        x.lose(0, 1);
+        x.resize(1, 9);
+        x.undo();
+        Due.is("20: resized", x.ofTroop(1, 2) * 10 + x.of(0, 1, 0), 20 + LOST);
+        x.undo();
+        x.troop(3);
+        x.undo();
+        Due.is("20: a troop", x.count(1), 2);
+        x.set(0, 1);
+        x.set(0, 2);
+        x.set(0, 3);
+        Due.is("20: seven made, six kept", x.count(9), 6);
+        Due.is("20: an error behind six", x.set(0, 100) + x.troop(0) + x.pass(0), 3 * BAD_VALUE);
+        for (int i = 5; i >= 0; i--) {
+            x.undo();
+        }
+        Due.is("20: the oldest state is whole", x.count(1) * 100 + x.count(6), 120);
     }
 
     private static void promise21Save() {
