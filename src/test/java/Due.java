@@ -1,10 +1,31 @@
 /** Compares answers with those that are due, and remembers whether one was wrong. */
 final class Due {
-    private static final int MOST_PRINTED = 20;
+    private static final int MOST_PRINTED = 40;
+    private static String sentence = "";
+    private static int tests = 0;
     private static int wrong = 0;
     private static int compared = 0;
 
     private Due() {
+    }
+
+    /**
+     * One test, named by the sentence of the document that it holds the program to. What the program throws counts as
+     * a wrong answer, so that the tests behind it are asked, too.
+     */
+    static void test(String itsSentence, Runnable test) {
+        int before = wrong;
+        sentence = itsSentence;
+        try {
+            test.run();
+        } catch (RuntimeException thrown) {
+            is("it threw " + thrown, 1, 0);
+        }
+        sentence = "";
+        tests++;
+        if (wrong > before) {
+            System.out.println("FAILED: " + itsSentence);
+        }
     }
 
     static void is(String call, long got, long want) {
@@ -14,7 +35,8 @@ final class Due {
         }
         wrong++;
         if (wrong <= MOST_PRINTED) {
-            System.out.println(call + " answered " + got + ", due is " + want);
+            String where = sentence.isEmpty() ? "" : sentence + " | ";
+            System.out.println(where + call + " answered " + got + ", due is " + want);
         }
     }
 
@@ -38,7 +60,7 @@ final class Due {
     }
 
     static void end() {
-        System.out.println(compared + " answers compared, " + wrong + " not as due");
+        System.out.println(tests + " tests by sentence, " + compared + " answers compared, " + wrong + " not as due");
         if (wrong != 0 || compared == 0) {
             System.exit(1);
         }
