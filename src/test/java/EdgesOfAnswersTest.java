@@ -18,6 +18,7 @@ public final class EdgesOfAnswersTest {
         Due.test("9: 3 its count down", EdgesOfAnswersTest::countDownOfTroop);
         Due.test("9: 4 hikes so far", EdgesOfAnswersTest::hikesOfTroop);
         Due.test("9: 5 to 9 scouts who are 0 to 4, as a set", EdgesOfAnswersTest::setsOfTroop);
+        Due.test("9: 5 to 9 scouts who are so: struck ones, too", EdgesOfAnswersTest::setsWithStruck);
         Due.test("9: 8: those on a hike who are none any more, too", EdgesOfAnswersTest::onHikesWithNone);
         Due.test("9: 10 struck ones, as a set", EdgesOfAnswersTest::struckOfTroop);
         Due.test("9: 11 scouts who went on hikes so far, all together", EdgesOfAnswersTest::wentOfTroop);
@@ -107,6 +108,10 @@ public final class EdgesOfAnswersTest {
         Due.test("15: by their numbers", EdgesOfAnswersTest::couldHikeByNumbers);
         Due.test("15: how often the gate opens: 2", EdgesOfAnswersTest::couldHikeTwice);
         Due.test("15: how often the gate opens: 1 with 16 scouts", EdgesOfAnswersTest::couldHikeWith16);
+        Due.test("15: how often the gate opens: 1, and a lost one comes behind it",
+            EdgesOfAnswersTest::couldHikeBeforeALostOne);
+        Due.test("15: how often the gate opens: 1, and those who are anew come behind it",
+            EdgesOfAnswersTest::couldHikeBeforeAnew);
         Due.test("15: NO_SUCH if there is no such troop", EdgesOfAnswersTest::couldHikeOfNoTroop);
         Due.test("15: nothing changes", EdgesOfAnswersTest::couldHikeChangesNothing);
     }
@@ -197,6 +202,19 @@ public final class EdgesOfAnswersTest {
         Due.is("two", x.ofTroop(0, 10), 24);
         Scene.come(x, Scene.RED, 3);
         Due.is("also inside", x.ofTroop(0, 10), 24);
+    }
+
+    /** All but scout 0 are struck; then 1 is found, 2 comes, 3 is early, and 4 stays lost. */
+    private static void setsWithStruck() {
+        ScoutGates x = Scene.struck(5, 1, 2, 3, 4);
+        x.find(0, 1);
+        x.come(0, 2, Scene.RED);
+        x.come(0, 3, Scene.BLUE);
+        Due.is("struck", x.ofTroop(0, 10), 30);
+        int[] due = {3, 4, 8, 0, 16};
+        for (int how = 0; how < due.length; how++) {
+            Due.is("those who are " + how, x.ofTroop(0, 5 + how), due[how]);
+        }
     }
 
     private static void wentOfTroop() {
@@ -768,6 +786,21 @@ public final class EdgesOfAnswersTest {
         Due.is("16", x.couldHike(0), 1);
         Scene.come(x, Scene.BLUE, 15);
         Due.is("the last one is outside", x.couldHike(0), 0);
+    }
+
+    private static void couldHikeBeforeALostOne() {
+        ScoutGates x = Scene.struck(3, 2);
+        Due.is("could", x.couldHike(0), 1);
+        Due.is("does", Scene.come(x, Scene.RED, 0, 1), 1);
+        Due.is("not for the lost one", Scene.come(x, Scene.BLUE, 2), 0);
+    }
+
+    private static void couldHikeBeforeAnew() {
+        ScoutGates x = Scene.troops(1);
+        x.resize(0, 3);
+        Due.is("could", x.couldHike(0), 1);
+        Due.is("does", Scene.come(x, Scene.RED, 0), 1);
+        Due.is("not for those anew", Scene.come(x, Scene.BLUE, 1, 2), 0);
     }
 
     private static void couldHikeOfNoTroop() {

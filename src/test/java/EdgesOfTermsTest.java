@@ -92,6 +92,7 @@ public final class EdgesOfTermsTest {
         Due.test("one that there is anew: it was at hikes, and lost", EdgesOfTermsTest::anewWithHikesBefore);
         Due.test("one that there is anew: it was lost and struck", EdgesOfTermsTest::anewFromLost);
         Due.test("one that there is anew: it was outside", EdgesOfTermsTest::anewFromOutside);
+        Due.test("one that there is anew: each of 15", EdgesOfTermsTest::fifteenAnew);
     }
 
     private static void minutes() {
@@ -709,6 +710,27 @@ public final class EdgesOfTermsTest {
         x.resize(0, 2);
         Due.is("opens, and it is there", Scene.come(x, Scene.RED, 0), 1);
         Due.is("hikes", x.of(0, 1, Scene.ITS_HIKES), 0);
+    }
+
+    /** Scouts 1 to 15, each with a hike behind it, are lost when the size becomes 1, and 16 again behind that. */
+    private static void fifteenAnew() {
+        ScoutGates x = Scene.sixteenOnAHike();
+        x.pass(30);
+        x.set(Scene.PATIENCE, 0);
+        for (int scout = 1; scout < 16; scout++) {
+            x.lose(0, scout);
+        }
+        x.pass(1);
+        x.resize(0, 1);
+        Due.is("opens without them", Scene.come(x, Scene.BLUE, 0), 1);
+        x.pass(30);
+        x.resize(0, 16);
+        Due.is("opens, and they are there", Scene.come(x, Scene.RED, 0), 1);
+        for (int scout = 1; scout < 16; scout++) {
+            Due.is("how " + scout, Scene.how(x, scout), Scene.HOME);
+            Due.is("minutes of " + scout, x.of(0, scout, Scene.MINUTES), 0);
+            Due.is("hikes of " + scout, x.of(0, scout, Scene.ITS_HIKES), 0);
+        }
     }
 
     private static void anewFromOutside() {

@@ -25,6 +25,7 @@ public final class EdgesOfUndoTest {
         Due.test("20: everything is as it was before it: pass()", () -> undoes(x -> x.pass(99)));
         Due.test("20: everything is as it was before it: carryOut()", EdgesOfUndoTest::undoesCarryOut);
         Due.test("20: everything is as it was before it: restore()", () -> undoes(x -> x.restore(1)));
+        Due.test("20: everything is as it was before it: each of 16 scouts", EdgesOfUndoTest::undoesSixteenScouts);
         Due.test("20: except the pad", EdgesOfUndoTest::padIsNotUndone);
         Due.test("20: except the pad: one that was carried out stays empty", EdgesOfUndoTest::carriedPadStaysEmpty);
         Due.test("20: except the slots", EdgesOfUndoTest::slotsAreNotUndone);
@@ -59,6 +60,7 @@ public final class EdgesOfUndoTest {
 
     private static void save() {
         Due.test("21: Saves everything: it is as it was", EdgesOfUndoTest::savesEverything);
+        Due.test("21: Saves everything: each of 16 scouts", EdgesOfUndoTest::savesSixteenScouts);
         Due.test("21: except the pad", EdgesOfUndoTest::savesNoPad);
         Due.test("21: except the history", EdgesOfUndoTest::savesNoHistory);
         Due.test("21: except the slots", EdgesOfUndoTest::savesNoSlots);
@@ -78,6 +80,8 @@ public final class EdgesOfUndoTest {
         Due.test("22: which keeps it", EdgesOfUndoTest::slotKeepsIt);
         Due.test("22: which keeps it, when what was restored changes", EdgesOfUndoTest::slotKeepsItUnchanged);
         Due.test("22: Restores fewer troops", EdgesOfUndoTest::restoresFewer);
+        Due.test("22: Restores fewer troops: one that comes behind that is a new one",
+            EdgesOfUndoTest::troopBehindRestoreIsNew);
         Due.test("22: Restores more troops", EdgesOfUndoTest::restoresMore);
         Due.test("22: This is a change", EdgesOfUndoTest::restoreIsAChange);
         Due.test("22: the pad stays", EdgesOfUndoTest::restoreKeepsPad);
@@ -209,6 +213,50 @@ public final class EdgesOfUndoTest {
         x.save(0);
         x.undo();
         Due.is("restores", x.restore(0), 1);
+    }
+
+    /** Every scout of a troop of 16 has these minutes and hikes. */
+    private static void eachOf16(String when, ScoutGates x, int minutes, int hikes) {
+        for (int scout = 0; scout < 16; scout++) {
+            Due.is(when + ", minutes of " + scout, x.of(0, scout, Scene.MINUTES), minutes);
+            Due.is(when + ", hikes of " + scout, x.of(0, scout, Scene.ITS_HIKES), hikes);
+        }
+    }
+
+    private static void undoesSixteenScouts() {
+        ScoutGates x = new ScoutGates();
+        x.troop(16);
+        x.save(0);
+        for (int scout = 0; scout < 16; scout++) {
+            x.come(0, scout, Scene.RED);
+        }
+        eachOf16("before", x, 30, 1);
+        x.restore(0);
+        eachOf16("behind restore()", x, 0, 0);
+        x.undo();
+        eachOf16("behind undo()", x, 30, 1);
+        x.pass(30);
+        eachOf16("behind pass()", x, 0, 1);
+        x.undo();
+        eachOf16("behind undo() of pass()", x, 30, 1);
+    }
+
+    private static void savesSixteenScouts() {
+        ScoutGates x = Scene.sixteenOnAHike();
+        x.pass(7);
+        x.save(1);
+        x.pass(30);
+        eachOf16("later", x, 0, 1);
+        x.restore(1);
+        eachOf16("restored", x, 23, 1);
+        x.save(0);
+        x.pass(23);
+        for (int scout = 0; scout < 16; scout++) {
+            x.come(0, scout, Scene.BLUE);
+        }
+        eachOf16("on the second hike", x, 30, 2);
+        x.restore(0);
+        eachOf16("restored from the other slot", x, 23, 1);
     }
 
     private static void sixStates() {
@@ -536,6 +584,20 @@ public final class EdgesOfUndoTest {
         Due.is("no troop 1", x.ofTroop(1, Scene.SIZE), Scene.NO_SUCH);
         Due.is("the next one", x.troop(4), 1);
         Due.is("its size", x.ofTroop(1, Scene.SIZE), 4);
+    }
+
+    private static void troopBehindRestoreIsNew() {
+        ScoutGates x = new ScoutGates();
+        x.save(0);
+        x.troop(16);
+        for (int scout = 0; scout < 16; scout++) {
+            x.come(0, scout, Scene.RED);
+        }
+        eachOf16("on a hike", x, 30, 1);
+        Due.is("no troops", x.restore(0), 0);
+        Due.is("a troop", x.troop(16), 0);
+        eachOf16("anew", x, 0, 0);
+        Due.is("at home", Scene.set(x, Scene.HOME), 65535);
     }
 
     private static void restoresMore() {

@@ -18,14 +18,18 @@ public final class FaceTest {
         + "resize(int,int) restore(int) save(int) set(int,int) troop(int) undo() waitsFor(int) why(int,int,int) wipe()";
     private static final String[] WORDS = {"throw", "throws", "try", "catch", "synchronized", "assert", "import",
         "package", "->", "::", "equals", "hashCode", "toString", "lambda", "Exact", "instanceof"};
-    private static final int LONGEST_METHOD = 60;
+    private static final int LONGEST_METHOD = 60, MOST_CLASSES = 12, MOST_FIELDS = 20, MOST_PARAMETERS = 7;
+    /** What the program calls by the name of a class; the rest it calls on its own objects. */
+    private static final String LIBRARY = "System.arraycopy Integer.bitCount Pad.charactersIn";
 
     public static void main(String[] args) throws IOException {
         constants();
         members();
         String program = Files.readString(Path.of("src/main/java/ScoutGates.java"));
         words(program);
-        methodLengths(program);
+        library(program);
+        methods(program);
+        sizes();
         Due.end();
     }
 
@@ -95,13 +99,48 @@ public final class FaceTest {
         Due.holds("signs 1 to 127", code.chars().allMatch(sign -> sign >= 1 && sign <= 127));
     }
 
-    /** A method is what stands between a line that opens it and the brace of the same depth. */
-    private static void methodLengths(String program) {
-        Matcher method = Pattern.compile("(?m)^( +)[a-zA-Z\\[\\] ]+\\([^;]*\\) \\{$").matcher(program);
+    private static void library(String program) {
+        Matcher call = Pattern.compile("\\b[A-Z][a-z]\\w*\\.\\w+\\b(?=\\()").matcher(program);
+        while (call.find()) {
+            Due.holds(call.group() + " may be called", List.of(LIBRARY.split(" ")).contains(call.group()));
+        }
+    }
+
+    /**
+     * A method is what stands between a line that opens it and the brace of the same depth. Only a constructor has one
+     * word before its brackets, or "public" and another; objects are made there alone, as room is short.
+     */
+    private static void methods(String program) {
+        Matcher method = Pattern.compile("(?m)^( +)([a-zA-Z0-9\\[\\] ]+)\\([^;]*\\) \\{$").matcher(program);
+        int methods = 0;
         while (method.find()) {
             int end = program.indexOf("\n" + method.group(1) + "}", method.end());
-            long lines = program.substring(method.start(), end).lines().count();
-            Due.holds(method.group().trim() + " has " + lines + " lines", lines <= LONGEST_METHOD);
+            String body = program.substring(method.start(), end);
+            String name = method.group().trim();
+            long lines = body.lines().count();
+            Due.holds(name + " has " + lines + " lines", lines <= LONGEST_METHOD);
+            boolean isMethod = method.group(2).replaceFirst("public |private ", "").trim().contains(" ");
+            Due.holds(name + " makes no object", !isMethod || !Pattern.compile("\\bnew\\b").matcher(body).find());
+            methods += isMethod ? 1 : 0;
+        }
+        Due.holds("methods were found", methods > FACE.split(" ").length);
+    }
+
+    private static void sizes() {
+        List<Class<?>> classes = new ArrayList<>(List.of(ScoutGates.class.getDeclaredClasses()));
+        Due.holds("at most 12 classes", classes.size() <= MOST_CLASSES);
+        classes.add(ScoutGates.class);
+        for (Class<?> type : classes) {
+            int fields = 0;
+            for (Field field : type.getDeclaredFields()) {
+                boolean isStatic = Modifier.isStatic(field.getModifiers());
+                Due.holds(field + " is no static state", !isStatic || Modifier.isFinal(field.getModifiers()));
+                fields += isStatic ? 0 : 1;
+            }
+            Due.holds(type + " has at most 20 fields", fields <= MOST_FIELDS);
+            for (Method method : type.getDeclaredMethods()) {
+                Due.holds(method + " takes at most 7", method.getParameterCount() <= MOST_PARAMETERS);
+            }
         }
     }
 }

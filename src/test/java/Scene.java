@@ -33,6 +33,15 @@ final class Scene {
         return gates;
     }
 
+    /** A troop of 16 who are all on a hike of 30 minutes, their first. */
+    static ScoutGates sixteenOnAHike() {
+        ScoutGates gates = troops(16);
+        for (int scout = 0; scout < 16; scout++) {
+            gates.come(0, scout, RED);
+        }
+        return gates;
+    }
+
     /** Scouts of troop 0 come, one after the other; answers how often the gate opened. */
     static int come(ScoutGates gates, int colour, int... scouts) {
         int openings = 0;
